@@ -570,7 +570,9 @@ public final class LastLatch {
 
     private void keepNow() {
         if (pastCount >= MOST_KEPT) {
-            System.arraycopy(past, 1, past, 0, MOST_KEPT - 1);
+            for (int i = 1; i < MOST_KEPT; i++) {
+                past[i - 1] = past[i];
+            }
             pastCount = MOST_KEPT - 1;
         }
         past[pastCount] = here.scene();
@@ -711,12 +713,12 @@ public final class LastLatch {
         private int length;
         private int sort;
         private int value;
+        // A WORD's letters as one number, five bits each: 8 letters fit, and no two WORDS are alike.
+        private long spelling;
         private boolean laneTold;
         private boolean lastTold;
-        private final boolean[] insideTold = new boolean[MOST_PEOPLE];
-        // Doors' names first, then people's: where each begins in the text, and how long it is.
-        private final int[] nameStart = new int[MOST_DOORS + MOST_PEOPLE];
-        private final int[] nameLength = new int[MOST_DOORS + MOST_PEOPLE];
+        // Doors' names first, then people's; 0 is none yet.
+        private final long[] names = new long[MOST_DOORS + MOST_PEOPLE];
 
         Reader(byte[] text, int end) {
             this.text = text;
@@ -802,6 +804,7 @@ public final class LastLatch {
             if (!readNewName(told.doors)) {
                 return false;
             }
+            advance();
             int kind = wordNumber(KIND_WORDS);
             if (kind == NONE) {
                 return fail(FORM);
@@ -820,7 +823,7 @@ public final class LastLatch {
                 return false;
             }
             told.people++;
-            return true;
+            return advance();
         }
 
         private boolean readLocked() {
@@ -880,7 +883,7 @@ public final class LastLatch {
             if (p == NONE) {
                 return false;
             }
-            if (insideTold[p]) {
+            if (told.at[p] != 0) {
                 return fail(AGAIN);
             }
             advance();
@@ -889,7 +892,6 @@ public final class LastLatch {
                 return false;
             }
             told.at[p] = room + 1;
-            insideTold[p] = true;
             return advance();
         }
 
@@ -935,12 +937,11 @@ public final class LastLatch {
             if (nameHere() != NONE) {
                 return fail(AGAIN);
             }
-            if (number < 0 || number >= nameStart.length) {
+            if (number < 0 || number >= names.length) {
                 return fail(MANY);
             }
-            nameStart[number] = start;
-            nameLength[number] = length;
-            return advance();
+            names[number] = spelling;
+            return true;
         }
 
         private int doorHere() {
@@ -965,45 +966,31 @@ public final class LastLatch {
             return sort == WORD && wordNumber(LINE_WORDS) == NONE;
         }
 
-        /** The number of the name that stands here; one not told yet has no length. */
         private int nameHere() {
-            for (int number = 0; number < nameStart.length; number++) {
-                if (nameLength[number] == length && isSameText(nameStart[number])) {
+            for (int number = 0; number < names.length; number++) {
+                if (names[number] == spelling) {
                     return number;
                 }
             }
             return NONE;
-        }
-
-        private boolean isSameText(int from) {
-            for (int i = 0; i < length; i++) {
-                if (byteAt(from + i) != byteAt(start + i)) {
-                    return false;
-                }
-            }
-            return true;
         }
 
         private int wordNumber(String words) {
             if (sort != WORD) {
                 return NONE;
             }
-            for (int number = 0; (number + 1) * LONGEST_WORD <= words.length(); number++) {
-                if (isWordAt(words, number * LONGEST_WORD)) {
-                    return number;
+            long spelled = 0;
+            for (int i = 0; i < words.length(); i++) {
+                char c = words.charAt(i);
+                spelled = c == ' ' ? spelled : spelled << 5 | c & 31;
+                if (i % LONGEST_WORD == LONGEST_WORD - 1) {
+                    if (spelled == spelling) {
+                        return i / LONGEST_WORD;
+                    }
+                    spelled = 0;
                 }
             }
             return NONE;
-        }
-
-        private boolean isWordAt(String words, int column) {
-            for (int i = 0; i < LONGEST_WORD && column + i < words.length(); i++) {
-                int here = i < length ? byteAt(start + i) : ' ';
-                if (here != words.charAt(column + i)) {
-                    return false;
-                }
-            }
-            return true;
         }
 
         private int byteAt(int i) {
@@ -1032,8 +1019,10 @@ public final class LastLatch {
         }
 
         private void takeWord() {
-            length = 1;
+            length = 0;
+            spelling = 0;
             for (int i = 0; i < end && isLetter(byteAt(start + length)); i++) {
+                spelling = spelling << 5 | byteAt(start + length) & 31;
                 length++;
             }
             sort = length <= LONGEST_WORD ? WORD : BAD;
@@ -1144,8 +1133,11 @@ public final class LastLatch {
 
         void put(int arrangement) {
             code = arrangement;
-            int left = arrangement;
             inLane = 0;
+            if (base <= 0) {
+                return;
+            }
+            int left = arrangement;
             for (int p = 0; p < people; p++) {
                 at[p] = left % base;
                 left /= base;
@@ -1163,7 +1155,7 @@ public final class LastLatch {
         }
 
         int placingOf(int arrangement) {
-            return arrangement % placingCount;
+            return placingCount > 0 ? arrangement % placingCount : 0;
         }
 
         boolean isDoor(int d) {
@@ -1242,7 +1234,7 @@ public final class LastLatch {
         /** Placings, as bits, by which each of both is where he must be; CANT asks nothing of him. */
         int placingsFor(int first, int second) {
             int bits = 0;
-            for (int placing = 0; placing < placingCount; placing++) {
+            for (int placing = 0; placing < placingCount && base > 0; placing++) {
                 boolean firstFits = people < 1 || first == CANT || placing % base == first;
                 boolean secondFits = people < 2 || second == CANT || placing / base == second;
                 bits |= firstFits && secondFits ? 1 << placing : 0;
@@ -1275,12 +1267,13 @@ public final class LastLatch {
             if (row == 1) {
                 return mayShut(d, these);
             }
-            return (these >> row - 2 & 1) != 0 && mayGo(row - 2, d);
+            int p = row - 2;
+            return (these >> p & 1) != 0 && mayGo(p, d);
         }
 
         boolean mayOpen(int d, int these) {
             int hands = inLane & these;
-            if (!isDoor(d) || lead[d] != 0 || hands == 0 || (nailed >> d & 1) != 0) {
+            if (d < 0 || d >= doors || lead[d] != 0 || hands == 0 || (nailed >> d & 1) != 0) {
                 return false;
             }
             boolean strong = kind[d] != HEAVY || Integer.bitCount(hands) >= 2;
@@ -1288,14 +1281,17 @@ public final class LastLatch {
         }
 
         boolean mayShut(int d, int these) {
-            if (!isOpen(d) || kind[d] == STUCK) {
+            if (d < 0 || d >= doors || lead[d] == 0 || kind[d] == STUCK) {
                 return false;
             }
             return ((inLane | peopleAt(lead[d])) & these) != 0;
         }
 
         boolean mayGo(int p, int d) {
-            return isPerson(p) && isOpen(d) && (at[p] == 0 || at[p] == lead[d]);
+            if (p < 0 || p >= people || d < 0 || d >= doors || lead[d] == 0) {
+                return false;
+            }
+            return at[p] == 0 || at[p] == lead[d];
         }
 
         int after(int step) {
@@ -1395,7 +1391,8 @@ public final class LastLatch {
         /** The first one whose placing is among these, else NONE. */
         int firstFit(int placings) {
             for (int i = 0; i < queue.length && head < tail && (met & placings) == 0; i++) {
-                expandNext();
+                expand(head, ALL);
+                head++;
             }
             if ((met & placings) == 0) {
                 return NONE;
@@ -1410,13 +1407,21 @@ public final class LastLatch {
 
         void finish() {
             for (int i = 0; i < queue.length && head < tail; i++) {
-                expandNext();
+                expand(head, ALL);
+                head++;
             }
         }
 
-        void expandNext() {
-            expand(head, ALL);
-            head++;
+        /** Goes on by as many STEPS as there are ends to tell: how many it has met by then. */
+        void spread(int[] ends) {
+            for (int n = 0; n < ends.length; n++) {
+                int end = tail;
+                for (int i = head; i < end && n > 0; i++) {
+                    expand(i, ALL);
+                    head++;
+                }
+                ends[n] = tail;
+            }
         }
 
         private void expand(int i, int which) {
@@ -1444,8 +1449,8 @@ public final class LastLatch {
         private int expandGoing(int p, int i, int which) {
             int count = 0;
             for (int d = 0; d < hall.doors; d++) {
-                boolean asked = which == ALL || which == SHUTTING == (hall.kindOf(d) == SPRING);
-                if (asked && hall.mayGo(p, d)) {
+                int sort = hall.kind[d] == SPRING ? SHUTTING : FREE;
+                if ((which == ALL || which == sort) && hall.mayGo(p, d)) {
                     add(hall.afterGo(p, d), i);
                     count++;
                 }
@@ -1563,7 +1568,7 @@ public final class LastLatch {
         /** The search must have begun where the rows do. */
         void fill(Search search, int placings) {
             Arrays.fill(byFirst, 0);
-            spread(search);
+            search.spread(ends);
             makeRoom(search);
             search.rank(ranks);
             for (int i = 0; i < search.tail; i++) {
@@ -1581,18 +1586,6 @@ public final class LastLatch {
                 byLength[n] = valueOf(search.arrangementAt(0), search);
             }
             known = true;
-        }
-
-        private void spread(Search search) {
-            int done = 0;
-            ends[0] = search.tail;
-            for (int n = 1; n <= MOST_ROW; n++) {
-                for (int i = done; i < ends[n - 1]; i++) {
-                    search.expandNext();
-                }
-                done = ends[n - 1];
-                ends[n] = search.tail;
-            }
         }
 
         private void makeRoom(Search search) {
@@ -1799,11 +1792,12 @@ public final class LastLatch {
             int drawn = seed;
             drawnLast = lastDoor;
             drawnStill = open == 0 ? 0 : CANT;
-            for (int time = 1; time <= n && open != 0; time++) {
+            for (int time = 1; time <= n; time++) {
                 drawn = nextSeed(drawn);
-                if (drawn % HUNDRED < drafts) {
+                int count = Integer.bitCount(open);
+                if (drawn % HUNDRED < drafts && count > 0) {
                     drawn = nextSeed(drawn);
-                    drawnLast = openDoor(open, drawn % Integer.bitCount(open));
+                    drawnLast = openDoor(open, drawn % count);
                     open &= ~(1 << drawnLast);
                     drawnStill = open == 0 ? time : CANT;
                 }
