@@ -27,7 +27,8 @@ public final class ModelTest {
 
     private static void runOne(Random dice, int mostDoors, boolean all) {
         m = Model.random(dice, mostDoors);
-        x = new LastLatch();
+        // some lanes are told to an object that had others
+        x = x == null || dice.nextInt(3) == 0 ? new LastLatch() : x;
         KEPT.clear();
         IMAGES.clear();
         Checks.granted(x, "lane of " + m.text, Checks.tell(x, m.text), m.doors);

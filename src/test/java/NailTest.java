@@ -60,7 +60,9 @@ public final class NailTest {
         Checks.granted(x, "gets(0, 0, 3)", x.gets(0, 0, 3), 1);
         Checks.granted(x, "opensWith(0, 0, 3)", x.opensWith(0, 0, 3), 0);
         Checks.granted(x, "gets(0, 0, 4)", x.gets(0, 0, 4), 1);
+        // each is asked by itself, whatever was asked before
         Checks.granted(x, "gets(1, 1, 0)", x.gets(1, 1, 0), 1);
+        Checks.granted(x, "opensWith(0, 0, 3)", x.opensWith(0, 0, 3), 0);
         // he is there already: nothing does, too
         Checks.granted(x, "gets(1, 1, 1)", x.gets(1, 1, 1), 1);
         Checks.granted(x, "opensWith(1, 1, 1)", x.opensWith(1, 1, 1), -2);

@@ -110,6 +110,10 @@ public final class SeenTest {
         Checks.tell(y, "lane drafts 0;door a spring;person p;seen p a");
         Checks.granted(y, "rows(2)", y.rows(2), 1);
         Checks.granted(y, "rows(3)", y.rows(3), 0);
+        Checks.granted(y, "firstBy(0, 2)", y.firstBy(0, 2), 1);
+        Checks.tell(y, "lane drafts 0;door a spring;ajar a a;person p;seen p a");
+        Checks.granted(y, "firstBy(0, 2)", y.firstBy(0, 2), 0);
+        Checks.granted(y, "firstBy(2, 1)", y.firstBy(2, 1), 1);
     }
 
     private static void refusals() {
