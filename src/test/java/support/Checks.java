@@ -46,6 +46,40 @@ final class Checks {
         granted(x, call, got ? 1 : 0, 1);
     }
 
+    /** A boundary case: the answer, then what trouble() says; where() has no place, since 4 isn't the reason. */
+    static void edge(LastLatch x, String call, long got, long want, int why) {
+        due(call, got, want);
+        due("trouble() behind " + call, x.trouble(), why);
+        due("where() behind " + call, x.where(), LastLatch.NONE);
+    }
+
+    static void edge(LastLatch x, String call, boolean got, boolean want, int why) {
+        edge(x, call, got ? 1 : 0, want ? 1 : 0, why);
+    }
+
+    /** Everything that can be told of NOW by single answers: it must be the same behind a refused call. */
+    static String picture(LastLatch x) {
+        StringBuilder all = new StringBuilder();
+        for (int what = 0; what <= 12; what++) {
+            all.append(x.size(what)).append(' ');
+        }
+        for (int d = 0; d < x.size(1); d++) {
+            for (int what = 0; what <= 5; what++) {
+                all.append(x.door(d, what)).append(' ');
+            }
+        }
+        for (int p = 0; p < x.size(2); p++) {
+            for (int what = 0; what <= 4; what++) {
+                all.append(x.person(p, what)).append(' ');
+            }
+        }
+        return all.append(x.fault()).toString();
+    }
+
+    static void same(String call, String before, LastLatch x) {
+        due("all is as it was behind " + call, before.equals(picture(x)), true);
+    }
+
     static void throwsNoSuch(String call, LastLatch x, int i) {
         boolean thrown = false;
         try {
