@@ -288,7 +288,7 @@ public final class LastLatch {
             return NONE;
         }
         contest.begin(told, here.scene(), p, room + 1);
-        return contest.getsIn(here.arrangement(), n, true) ? 1 : 0;
+        return contest.succeeds(here.arrangement(), n) ? 1 : 0;
     }
 
     public int opensWith(int p, int room, int n) {
@@ -1495,7 +1495,7 @@ public final class LastLatch {
         int fewestShut(int placings) {
             int from = 0;
             for (int count = 0; count <= queue.length; count++) {
-                for (int i = from; i < tail; i++) {
+                for (int i = from; i < tail && i < queue.length; i++) {
                     expand(i, FREE);
                 }
                 if ((met & placings) != 0) {
@@ -1660,7 +1660,12 @@ public final class LastLatch {
             goal = place;
         }
 
-        boolean getsIn(int arrangement, int left, boolean seekerMoves) {
+        /** Whether the seeker, who moves first, is at the goal behind so many moves. */
+        boolean succeeds(int arrangement, int moves) {
+            return getsIn(arrangement, moves, true);
+        }
+
+        private boolean getsIn(int arrangement, int left, boolean seekerMoves) {
             if (left <= 0) {
                 hall.put(arrangement);
                 return hall.placeOf(seeker) == goal;

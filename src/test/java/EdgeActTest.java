@@ -331,6 +331,14 @@ public final class EdgeActTest {
             String before = Checks.picture(x);
             refused(before, x, "image(), no room", x.image(), 3);
         }
+        // one that isn't refused says so, whatever was refused ahead of it
+        LastLatch y = Checks.told(ONE);
+        y.shut(0);
+        Checks.due("trouble() ahead of image()", y.trouble(), 5);
+        Checks.edge(y, "image() behind a refused call", y.image(), 0, 0);
+        Checks.tell(y, "");
+        Checks.due("trouble() ahead of image()", y.trouble(), 4);
+        Checks.edge(y, "image() behind a FAULT", y.image(), 1, 0);
         // gone back there is no more room than before
         x.back(1);
         Checks.edge(x, "image()", x.image(), -1, 3);

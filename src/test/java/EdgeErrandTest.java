@@ -24,6 +24,8 @@ public final class EdgeErrandTest {
         reachCountsLast();
         fullReach();
         deepestAndStuck();
+        askedAgain();
+        newLaneIsAskedAnew();
         askingChangesNothing();
         withoutALane();
         Checks.finish();
@@ -296,6 +298,54 @@ public final class EdgeErrandTest {
         x.shut(0);
         Checks.edge(x, "deepest(), where nothing can be done", x.deepest(), 0, 0);
         Checks.edge(x, "stuckOnes(), NOW's too", x.stuckOnes(), 1, 0);
+    }
+
+    /** "From NOW": asked again the same, behind an ACT what is due then, undone as before. */
+    private static void askedAgain() {
+        LastLatch x = Checks.told("lane drafts 0;door a plain;person p;person q;wants p a");
+        for (int i = 0; i < 3; i++) {
+            all(x, 8, 4, 1, 2);
+        }
+        x.open(0);
+        all(x, 8, 4, 1, 1);
+        x.go(0, 0);
+        all(x, 8, 4, 1, 0);
+        x.go(1, 0);
+        x.shut(0);
+        all(x, 1, 1, 1, 0);
+        x.undo();
+        x.undo();
+        x.undo();
+        all(x, 8, 4, 1, 1);
+        x.undo();
+        x.nail(0);
+        all(x, 1, 1, 1, -2);
+        x.undo();
+        all(x, 8, 4, 1, 2);
+    }
+
+    private static void all(LastLatch x, int reach, int placings, int stuck, int errand) {
+        Checks.edge(x, "reach()", x.reach(), reach, 0);
+        Checks.edge(x, "placings()", x.placings(), placings, 0);
+        Checks.edge(x, "stuckOnes()", x.stuckOnes(), stuck, 0);
+        Checks.edge(x, "errand(0)", x.errand(0), errand, 0);
+        Checks.edge(x, "wayTo(0, 1)", x.wayTo(0, 1), errand, 0);
+    }
+
+    /** A new LANE whose doors and people stand as those of the one ahead did, but for locks, keys, wants. */
+    private static void newLaneIsAskedAnew() {
+        LastLatch x = Checks.told("lane drafts 0;door a plain;person p;person q;wants p a");
+        all(x, 8, 4, 1, 2);
+        Checks.tell(x, "lane drafts 0;door a plain;person p;person q;wants p a;locked a");
+        all(x, 1, 1, 1, -2);
+        // p has the key: with him behind the shut door nothing can be done, wherever q is
+        Checks.tell(x, "lane drafts 0;door a plain;person p;person q;wants p a;locked a;key p");
+        all(x, 8, 4, 2, 2);
+        Checks.tell(x, "lane drafts 0;door a plain;person p;person q;wants p a");
+        all(x, 8, 4, 1, 2);
+        // a text with a FAULT leaves it as it is
+        Checks.tell(x, "lane drafts 0;door a plain;person p;person q;wants p a;locked a;");
+        all(x, 8, 4, 1, 2);
     }
 
     /** These ask from NOW and leave it as it is. */

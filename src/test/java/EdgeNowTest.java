@@ -66,6 +66,18 @@ public final class EdgeNowTest {
         lean.nail(0);
         Checks.edge(lean, "door(0, 0)", lean.door(0, 0), 1, 0);
         Checks.edge(lean, "door(0, 3)", lean.door(0, 3), 1, 0);
+        // of four doors each has its own nail, and its own bit of LAST
+        LastLatch nails = Checks.told("lane drafts 0;door a plain;door b spring;door c heavy;door d stuck;last d");
+        int nailed = 0;
+        for (int next : new int[] {3, 1, 2, 0}) {
+            nails.nail(next);
+            nailed |= 1 << next;
+            for (int d = 0; d < 4; d++) {
+                Checks.edge(nails, "door(" + d + ", 3)", nails.door(d, 3), nailed >> d & 1, 0);
+                Checks.edge(nails, "door(" + d + ", 5)", nails.door(d, 5), d == 3 ? 1 : 0, 0);
+                Checks.edge(nails, "door(" + d + ", 0)", nails.door(d, 0), d, 0);
+            }
+        }
         // people in its own ROOM, not in that to which it leads
         LastLatch y = Checks.told("lane drafts 0;door a plain;door b plain;ajar a b;person p;inside p b");
         Checks.edge(y, "door(0, 4)", y.door(0, 4), 0, 0);

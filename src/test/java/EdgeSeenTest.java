@@ -85,6 +85,18 @@ public final class EdgeSeenTest {
         LastLatch not = Checks.told(ONE + ";door b plain;last b;seen p b");
         Checks.edge(not, "rows(0)", not.rows(0), 0, 0);
         Checks.edge(not, "lastBy(0)", not.lastBy(0), 0, 0);
+        // behind no STEP, though the first STEP that can be done is a going
+        LastLatch going = Checks.told("lane drafts 0;door a stuck;door b plain;locked b;last b;ajar a a;person p;seen p lane");
+        Checks.due("led(0) of a stuck open one", going.led(0), 4);
+        int[] rows = {1, 0, 1, 0, 1, 0, 1};
+        for (int n = 0; n <= 6; n++) {
+            Checks.edge(going, "rows(" + n + ")", going.rows(n), rows[n], 0);
+            Checks.edge(going, "lastBy(" + n + ")", going.lastBy(n), 2 * rows[n], 0);
+        }
+        LastLatch gone = Checks.told("lane drafts 0;door a stuck;door b plain;locked b;last b;ajar a a;person p;seen p a");
+        for (int n = 0; n <= 6; n++) {
+            Checks.edge(gone, "rows(" + n + ")", gone.rows(n), 1 - rows[n], 0);
+        }
         // both must be there
         LastLatch half = Checks.told(TWO + ";inside q a;seen p lane;seen q lane");
         Checks.edge(half, "rows(0)", half.rows(0), 0, 0);
@@ -178,6 +190,16 @@ public final class EdgeSeenTest {
         Checks.edge(x, "rows(2)", x.rows(2), 1, 0);
         Checks.tell(x, ONE + ";seen p lane");
         Checks.edge(x, "rows(0)", x.rows(0), 1, 0);
+        Checks.edge(x, "firstBy(0, 1)", x.firstBy(0, 1), 1, 0);
+        // of the new one no STEP can be done: none is the first one by any row
+        Checks.tell(x, ONE + ";locked a;seen p lane");
+        for (int n = 1; n <= 6; n++) {
+            Checks.edge(x, "rows(" + n + ")", x.rows(n), 0, 0);
+            Checks.edge(x, "lastBy(" + n + ")", x.lastBy(n), 0, 0);
+            for (int step = 0; step < 3; step++) {
+                Checks.edge(x, "firstBy(" + step + ", " + n + ")", x.firstBy(step, n), 0, 0);
+            }
+        }
     }
 
     // ---- promise 25: "(0 .. 6) .. -2 none of six or fewer"
