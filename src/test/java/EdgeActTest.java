@@ -5,6 +5,7 @@ public final class EdgeActTest {
     private static final String ONE = "lane drafts 0;door a plain;person p";
 
     public static void main(String[] args) {
+        numbersOfTheFullLane();
         openNumbers();
         openIsOpen();
         openCantBe();
@@ -45,6 +46,27 @@ public final class EdgeActTest {
     private static void refused(String before, LastLatch x, String call, boolean got, int why) {
         Checks.edge(x, call, got, false, why);
         Checks.same(call, before, x);
+    }
+
+    /** Four doors and two people: the next number is there none such of, open or shut, in the lane or not. */
+    private static void numbersOfTheFullLane() {
+        String doors = "lane drafts 0;door a plain;door b plain;door c plain;door d plain;person p;person q";
+        for (String rest : new String[] {"", ";inside p d;inside q d", ";last a;ajar b a;ajar c a;ajar d d",
+            ";ajar a a;ajar b b;ajar c c;ajar d d;inside q d"}) {
+            LastLatch x = Checks.told(doors + rest);
+            String before = Checks.picture(x);
+            refused(before, x, "open(4)", x.open(4), 1);
+            refused(before, x, "shut(4)", x.shut(4), 1);
+            refused(before, x, "nail(4)", x.nail(4), 1);
+            refused(before, x, "spring(4)", x.spring(4), 1);
+            for (int d = -1; d <= 4; d++) {
+                refused(before, x, "go(2, " + d + ")", x.go(2, d), 1);
+                refused(before, x, "go(-1, " + d + ")", x.go(-1, d), 1);
+            }
+            refused(before, x, "go(0, 4)", x.go(0, 4), 1);
+            refused(before, x, "go(1, 4)", x.go(1, 4), 1);
+            refused(before, x, "go(1, -1)", x.go(1, -1), 1);
+        }
     }
 
     // ---- promise 37: "NONE: 1; 5 (it is open); 6 (it can't be)"

@@ -189,6 +189,17 @@ public final class EdgeErrandTest {
         x.nail(1);
         x.nail(2);
         Checks.edge(x, "shuttings(0), only by a", x.shuttings(0), 1, 0);
+        // b must be shut, opened, and shuts behind him; or both are shut, and a is opened: two in either case
+        LastLatch y = Checks.told("lane drafts 0;door a plain;door b spring;ajar b a;ajar a a;person p;home p b");
+        Checks.edge(y, "shuttings(1), two", y.shuttings(1), 2, 0);
+        Checks.edge(y, "errand(1), three", y.errand(1), 3, 0);
+        // b can't be opened again: a is shut, then b, a leads to b's
+        LastLatch z = Checks.told("lane drafts 0;door a plain;door b plain;locked b;ajar a a;ajar b a;person p;wants p b");
+        Checks.edge(z, "shuttings(0), two", z.shuttings(0), 2, 0);
+        int[] due = {2, 3, 0, 4};
+        for (int i = 0; i < 4; i++) {
+            Checks.edge(z, "errandAt(0, " + i + ")", z.errandAt(0, i), due[i], 0);
+        }
     }
 
     // ---- promise 16: "-2. NONE: 1 (no such person, no such ROOM)"
